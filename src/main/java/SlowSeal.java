@@ -70,11 +70,7 @@ public final class SlowSeal {
     }
 
     public int at(int r, int i) {
-        if (!isRegister(r)) {
-            return BAD;
-        }
-        Bytes register = bytesOf(r);
-        return register.has(i) ? register.byteAt(i) : NONE;
+        return isRegister(r) ? bytesOf(r).byteAt(i) : BAD;
     }
 
     public int hash(int to, int from, int key, int n) {
@@ -235,19 +231,16 @@ public final class SlowSeal {
             count = 0;
         }
 
-        boolean has(int i) {
-            return i >= 0 && i < count;
-        }
-
-        /** 0 behind the last byte, so that a part of a message is filled up with 0s. */
         int byteAt(int i) {
-            return has(i) ? bytes[i] & 255 : 0;
+            return i >= 0 && i < count ? bytes[i] & 255 : NONE;
         }
 
+        /** Behind the last byte all are 0s, for so the last part of a message is filled up. */
         long wordAt(int start) {
             long word = 0;
-            for (int i = WORD_BYTES - 1; i >= 0; i--) {
-                word = word << 8 | byteAt(start + i);
+            int end = Math.min(start + WORD_BYTES, count);
+            for (int i = end - 1; i >= 0 && i >= start; i--) {
+                word = word << 8 | bytes[i] & 255;
             }
             return word;
         }
@@ -582,7 +575,9 @@ public final class SlowSeal {
             pass = done / lanes / SLICES;
             boolean byAddress = goesByAddress();
             if (byAddress) {
-                makeAddress();
+                openAddress();
+                joiner.join(zeros, address, address, false);
+                joiner.join(zeros, address, address, false);
             }
             int start = lane * laneBlocks;
             for (int i = isFirstSlice() ? 2 : 0; i < sliceBlocks; i++) {
@@ -603,8 +598,8 @@ public final class SlowSeal {
             return kind == KIND_BY_ADDRESSES || kind == KIND_OF_BOTH && pass == 0 && slice < 2;
         }
 
-        /** One is enough for a segment: a slice has at most 32 blocks, and an address block 128 words. */
-        private void makeAddress() {
+        /** The first one (c = 1) serves the whole segment, for a slice has at most 32 blocks. */
+        private void openAddress() {
             for (int k = 0; k < BLOCK_WORDS; k++) {
                 address[k] = 0;
             }
@@ -615,11 +610,9 @@ public final class SlowSeal {
             address[4] = passes;
             address[5] = kind;
             address[6] = 1;
-            joiner.join(zeros, address, address, false);
-            joiner.join(zeros, address, address, false);
         }
 
-        /** The number of THE FAR BLOCK for place i of the slice, by J and K, the halves of a word. */
+        /** THE FAR BLOCK of place i in the slice; J and K are the halves of the word numbers. */
         private int farBlock(int i, long numbers) {
             int farLane = isFirstSlice() || lanes < 2 ? lane : (int) ((numbers >>> 32) % lanes);
             int finished = pass == 0 ? slice * sliceBlocks : laneBlocks - sliceBlocks;

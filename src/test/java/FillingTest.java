@@ -227,6 +227,11 @@ public final class FillingTest {
         x.begin(1, 3, 1, 50, 9, 0, 1, -1, -1);
         model.begin(new int[] {1, 3, 1, 50, 9}, 0, 1, -1, -1);
         sameWords("begin after another", x, model);
+        sameBlock("begin after another", x, model, 47);
+        for (int block = 0; block < 48; block++) {
+            sameWord("begin after another", x, model, block, 0);
+            sameWord("begin after another", x, model, block, 127);
+        }
         int[] due = {1, 3, 1, 48, 0, 12, 9};
         for (int what = 0; what < 7; what++) {
             CHECKS.due("told(" + what + ") of the new one", x.told(what), due[what]);
