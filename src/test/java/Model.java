@@ -213,7 +213,7 @@ final class Model {
         return q * farLane + (pass == 0 ? y : (first + y) % q);
     }
 
-    private static long[] join(long[] x, long[] y) {
+    static long[] join(long[] x, long[] y) {
         long[] z = xor(x, y);
         for (int row = 0; row < 8; row++) {
             int[] places = new int[16];
@@ -329,7 +329,7 @@ final class Model {
         v[at[3]] = d;
     }
 
-    private static long[] xor(long[] x, long[] y) {
+    static long[] xor(long[] x, long[] y) {
         long[] z = new long[x.length];
         for (int k = 0; k < z.length; k++) {
             z[k] = x[k] ^ y[k];

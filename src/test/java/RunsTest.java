@@ -2,7 +2,7 @@ import java.util.Random;
 
 /** Runs of up to 512 mixed calls, right and wrong ones, each answer as the model's. All promises. */
 public final class RunsTest {
-    private static final Checks CHECKS = new Checks();
+    private static final Checks CHECKS = new Checks("All promises, mixed runs");
     private static final int RUNS = 300;
     private static final int CALLS = 512;
 
@@ -15,13 +15,17 @@ public final class RunsTest {
     }
 
     public static void main(String[] args) {
+        CHECKS.test("each call answers as the model", RunsTest::allRuns);
+        CHECKS.end();
+    }
+
+    private static void allRuns() {
         for (int run = 0; run < RUNS; run++) {
             RunsTest test = new RunsTest(run);
             for (int call = 0; call < CALLS; call++) {
                 test.anyCall("run " + run + ", call " + call + ": ");
             }
         }
-        CHECKS.end("RunsTest");
     }
 
     private void anyCall(String where) {
