@@ -5,8 +5,11 @@ import java.util.Arrays;
  * due, and tells them under the name of the promise and the sentence.
  */
 final class Checks {
+    private static final int TOLD_OF_A_TEST = 5;
+
     private final String promise;
     private String sentence = "";
+    private int wrongBefore = 0;
     private int tests = 0;
     private int broken = 0;
     private int asked = 0;
@@ -20,7 +23,7 @@ final class Checks {
     void test(String itsSentence, Runnable body) {
         sentence = itsSentence;
         int askedBefore = asked;
-        int wrongBefore = wrong;
+        wrongBefore = wrong;
         try {
             body.run();
         } catch (RuntimeException | StackOverflowError thrown) {
@@ -32,7 +35,7 @@ final class Checks {
         tests++;
         if (wrong != wrongBefore) {
             broken++;
-            System.out.println("BROKEN " + promise + ": " + sentence);
+            System.out.println("BROKEN " + promise + ": " + sentence + " (" + (wrong - wrongBefore) + " wrong)");
         }
     }
 
@@ -70,8 +73,12 @@ final class Checks {
         }
     }
 
+    /** The first few are told, for one fault can make all later answers wrong. */
     private void tellWrong(String what) {
         wrong++;
+        if (wrong - wrongBefore > TOLD_OF_A_TEST) {
+            return;
+        }
         System.out.println(promise + ": " + sentence + ": " + what);
     }
 }
