@@ -15,9 +15,7 @@ public final class Promise09FillTest {
     private static final List<FarBlocks.Step> STEPS = new ArrayList<>();
 
     public static void main(String[] args) {
-        for (int[] sizes : LOOKED_AT) {
-            STEPS.addAll(FarBlocks.of(sizes));
-        }
+        CHECKS.test("each segment can be looked at by itself", Promise09FillTest::fillLookedAt);
         CHECKS.test("n below 1 is BAD", Promise09FillTest::fillOfTooFewIsBad);
         CHECKS.test("n above 100 is BAD", Promise09FillTest::fillOfTooManyIsBad);
         CHECKS.test("BAD changes nothing", Promise09FillTest::fillThatIsBadChangesNothing);
@@ -52,6 +50,17 @@ public final class Promise09FillTest {
         CHECKS.test("KIND 2 changes its way after slice 1 of the first pass", Promise09FillTest::fillOfKindTwoChanges);
         CHECKS.test("registers stay", Promise09FillTest::fillLeavesRegisters);
         CHECKS.end();
+    }
+
+    /** Finds the steps that tests below ask for. */
+    private static void fillLookedAt() {
+        for (int[] s : LOOKED_AT) {
+            List<FarBlocks.Step> steps = FarBlocks.of(s);
+            int firsts = 2 * s[1];
+            CHECKS.due("blocks done of " + Arrays.toString(s), steps.size(),
+                s[2] * (s[3] / (4 * s[1]) * 4 * s[1]) - firsts);
+            STEPS.addAll(steps);
+        }
     }
 
     private static void fillOfTooFewIsBad() {
